@@ -16,6 +16,7 @@ public final class JointHistory {
     private static final int MOST_DETOURS = 4;
     private static final int FIRST_OPAQUE = 4;
     private static final int FULL_ROOM = 36;
+    private static final int LAST_STEP = 0x7fffffff;
     private static final long HIDDEN_STATE = 1L << 40;
 
     // The window, the frames of its documents, and the frames of theirs.
@@ -256,7 +257,7 @@ public final class JointHistory {
             case 1:
                 return allNavigables();
             case 2:
-                return entriesUpTo(Integer.MAX_VALUE);
+                return entriesUpTo(LAST_STEP);
             case 3:
                 return pops;
             case 4:
@@ -312,7 +313,7 @@ public final class JointHistory {
     }
 
     private boolean isFull(boolean pushing) {
-        return entriesUpTo(pushing ? presentStep : Integer.MAX_VALUE) >= FULL_ROOM;
+        return entriesUpTo(pushing ? presentStep : LAST_STEP) >= FULL_ROOM;
     }
 
     private int entriesUpTo(int step) {
@@ -350,14 +351,13 @@ public final class JointHistory {
         if (n < 0 || n >= ROWS || !navigables[n].there) {
             return null;
         }
-        Navigable at = navigables[n];
-        for (int level = at.level; level > 0; level--) {
-            Document above = at.above;
+        Document above = navigables[n].above;
+        for (int level = 1; level < LEVELS && above != null; level++) {
             Entry holder = entryAt(above.owner, step);
             if (holder == null || holder.document != above) {
                 return null;
             }
-            at = above.owner;
+            above = above.owner.above;
         }
         return entryAt(navigables[n], step);
     }

@@ -569,6 +569,62 @@ public final class PromiseTest {
         counts("after removal", x, 1, 1, 2, 0, 1, 2);
     }
 
+    private static void framesInFrames() {
+        part = "promises 9 and 13, frames in frames";
+        JointHistory x = new JointHistory();
+        x.content(8, 80, 88, false);
+        x.content(10, 96, NO_FRAME, false);
+        x.navigate(0, 64, false);
+        due("the frame in the frame", x.frame(1, 0), 2);
+        due("is shown", x.url(2), 96);
+        x.navigate(0, 0, false);
+        due("not with another window document", x.url(2), HIDDEN);
+        due("the only one shown", x.count(0), 1);
+        x.go(-1);
+        x.navigate(1, 104, false);
+        due("not with another frame document", x.url(2), HIDDEN);
+        due("those shown", x.count(0), 3);
+        x.go(-1);
+        due("shown again", x.url(2), 96);
+    }
+
+    private static void nothingIsLeftOver() {
+        part = "promise 13, after frames that are gone";
+        JointHistory x = withTwoFrames();
+        x.go(-1);
+        x.navigate(0, 0, false);
+        due("no first", x.frame(0, 0), NONE);
+        due("no second", x.frame(0, 1), NONE);
+        x.go(-1);
+        x.navigate(0, 64, false);
+        due("two again", x.frame(0, 1), 2);
+        x.content(8, 80, NO_FRAME, false);
+        x.go(-1);
+        x.navigate(0, 64, false);
+        due("one frame", x.frame(0, 0), 1);
+        due("and no second one", x.frame(0, 1), NONE);
+    }
+
+    private static void usedStepsInAnyOrder() {
+        part = "promises 7 and 16";
+        JointHistory x = withTwoFrames();
+        x.navigate(2, 96, false);
+        x.navigate(1, 96, false);
+        due("the later frame's step", x.detach(1), 2);
+        due("the window goes on", x.navigate(0, 0, false), 3);
+        due("length", x.length(), 4);
+        due("back to the frame's step", x.go(-1), 2);
+        due("back to the window's", x.go(-1), 1);
+        due("back to the first", x.go(-1), 0);
+        due("on to the last", x.go(3), 3);
+        JointHistory y = new JointHistory();
+        y.content(8, 80, 88, false);
+        due("replaced at the step 0", y.navigate(0, 64, true), 0);
+        due("its frames have it, too", y.step(2), 0);
+        due("it is used once", y.length(), 1);
+        due("no step beside it", y.go(1), NONE);
+    }
+
     public static void main(String[] args) {
         newObject();
         contentRanges();
@@ -591,6 +647,9 @@ public final class PromiseTest {
         detaching();
         observers();
         sums();
+        framesInFrames();
+        nothingIsLeftOver();
+        usedStepsInAnyOrder();
         System.out.println(wrong == 0 ? "all promises are kept" : wrong + " answers are not as due");
         if (wrong != 0) {
             System.exit(1);
