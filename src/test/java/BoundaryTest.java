@@ -22,6 +22,9 @@ public final class BoundaryTest {
     private static final int LEAST = Integer.MIN_VALUE;
     private static final int GREATEST = Integer.MAX_VALUE;
 
+    // No more than forty entries are ever there, so no more steps are used.
+    private static final int MOST_STEPS = 40;
+
     private static int wrong = 0;
     private static int sentences = 0;
     private static String sentence = "";
@@ -76,13 +79,24 @@ public final class BoundaryTest {
     private static String seenAtEachStep(JointHistory x) {
         StringBuilder text = new StringBuilder(seen(x));
         int forward = 0;
-        while (x.go(1) != NONE) {
+        while (stillGoes(x, 1, forward)) {
             forward++;
         }
+        int back = 0;
         do {
             text.append(" | ").append(seen(x));
-        } while (x.go(-1) != NONE);
+            back++;
+        } while (stillGoes(x, -1, back));
         return text.append(" | ").append(forward).toString();
+    }
+
+    /** A go that is never refused must fail the test, and not keep it from ending. */
+    private static boolean stillGoes(JointHistory x, int delta, int gone) {
+        if (gone > MOST_STEPS) {
+            due("go by " + delta + " from the last step there", x.go(delta), NONE);
+            return false;
+        }
+        return x.go(delta) != NONE;
     }
 
     /** The window shows 64 at the step 1, with the frames 1 (80) and 2 (88), all of the host 1. */
@@ -750,12 +764,11 @@ public final class BoundaryTest {
     }
 
     private static void dueDocumentsBefore(JointHistory x) {
-        int i = x.present();
-        while (x.go(-1) != NONE) {
-            i--;
+        for (int i = x.present() - 1; i >= 0; i--) {
+            due("back to the step", x.go(-1), i);
             due("the document of the step " + i, x.origin(0), 4 + i);
         }
-        due("back at the first", i, 0);
+        due("no step before the first", x.go(-1), NONE);
     }
 
     private static void documentsWhenPushing() {
